@@ -1081,6 +1081,7 @@ public final class RosettePlate {
                     return NOT_ALLOWED;
                 }
                 unit /= 10;
+                // The numbers that begin with the digits read so far are those from here on, as many as the unit.
                 from += digit * unit;
                 if (from > most || from + unit - 1 < least) {
                     return NOT_ALLOWED;
