@@ -530,16 +530,17 @@ public final class RosettePlate {
             return greatest;
         }
 
+        /** The smallest common multiple of the teeth of both. */
         int period(int ring) {
-            return (int) commonMultiple(ring, wheel);
+            return ring * turns(ring);
         }
 
         int turns(int ring) {
-            return (int) quotient(period(ring), ring);
+            return (int) quotient(wheel, commonDivisor(ring, wheel));
         }
 
         int lobes(int ring) {
-            return (int) quotient(period(ring), wheel);
+            return (int) quotient(ring, commonDivisor(ring, wheel));
         }
 
         /** The pen is at an angle at every ring-th step only, so no other steps are tried. */
@@ -553,10 +554,6 @@ public final class RosettePlate {
                 }
             }
             return NONE;
-        }
-
-        boolean passes(int ring, int angle, int radius) {
-            return firstStepAt(ring, angle, radius) != NONE;
         }
 
         /** Both pens go on by one tooth a step, so their angles are the same always or never. */
@@ -702,7 +699,7 @@ public final class RosettePlate {
 
         boolean fits(Layer a) {
             for (int i = 0; i < sightingCount; i++) {
-                if (!a.passes(ring, sightedAngle(i), sightedRadius(i))) {
+                if (a.firstStepAt(ring, sightedAngle(i), sightedRadius(i)) == NONE) {
                     return false;
                 }
             }
@@ -724,7 +721,7 @@ public final class RosettePlate {
             int number = 0;
             for (int l = 0; l < layerCount; l++) {
                 Layer a = find(l);
-                if (a != null && a.passes(ring, angle, radius)) {
+                if (a != null && a.firstStepAt(ring, angle, radius) != NONE) {
                     number++;
                 }
             }
@@ -891,14 +888,12 @@ public final class RosettePlate {
             return first;
         }
 
-        private void cutSecond(int ring, Layer b) {
+        int countCommon(int ring, Layer a, Layer b) {
+            first.clear();
+            first.cutRosette(ring, a);
             second.clear();
             second.cutRosette(ring, b);
-        }
-
-        int countCommon(int ring, Layer a, Layer b) {
-            cutSecond(ring, b);
-            return cutOne(ring, a).sizeOfBoth(second);
+            return first.sizeOfBoth(second);
         }
 
         /**
@@ -910,12 +905,15 @@ public final class RosettePlate {
         }
 
         int turnBetween(int ring, Layer a, Layer b) {
-            cutSecond(ring, b);
+            second.clear();
+            second.cutRosette(ring, b);
             trial.become(a);
             int turns = differentStarts(ring, a);
             for (int turn = 0; turn < turns; turn++) {
                 trial.start = a.angleAt(ring, turn);
-                if (cutOne(ring, trial).isSameAs(second)) {
+                first.clear();
+                first.cutRosette(ring, trial);
+                if (first.isSameAs(second)) {
                     return turn;
                 }
             }
@@ -923,14 +921,17 @@ public final class RosettePlate {
         }
 
         int startWithMost(int ring, Layer a, Layer b) {
-            cutSecond(ring, b);
+            second.clear();
+            second.cutRosette(ring, b);
             trial.become(a);
             int starts = differentStarts(ring, a);
             int best = 0;
             int most = NONE;
             for (int start = 0; start < starts; start++) {
                 trial.start = start;
-                int number = cutOne(ring, trial).sizeOfBoth(second);
+                first.clear();
+                first.cutRosette(ring, trial);
+                int number = first.sizeOfBoth(second);
                 if (number > most) {
                     most = number;
                     best = start;
