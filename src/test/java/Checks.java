@@ -1,5 +1,7 @@
 import java.util.ArrayList;
 import java.util.List;
+import java.util.function.Supplier;
+import java.util.function.ToLongFunction;
 
 /** Counts checks, prints those that are wrong, and ends a test program. */
 final class Checks {
@@ -7,8 +9,18 @@ final class Checks {
         long run();
     }
 
+    static final Class<IndexOutOfBoundsException> INDEX = IndexOutOfBoundsException.class;
+    static final Class<IllegalArgumentException> ARGUMENT = IllegalArgumentException.class;
+    static final Class<IllegalStateException> STATE = IllegalStateException.class;
+
     private int passed;
     private int failed;
+    private String sentence = "";
+
+    /** Tells of which section of the document, and of which sentence there, the checks from here on are. */
+    void of(String section, String words) {
+        sentence = section + ", \"" + words + "\": ";
+    }
 
     void due(String what, long got, long want) {
         note(got == want, what + " answered " + got + ", due is " + want);
@@ -27,6 +39,14 @@ final class Checks {
         note(got.equals(want.getSimpleName()), what + " ended with " + got + ", due is " + want.getSimpleName());
     }
 
+    /** A call that throws what is due, and that leaves an object that cannot be told from one without this call. */
+    void refused(String what, Class<? extends RuntimeException> want, Supplier<RosettePlate> maker,
+            ToLongFunction<RosettePlate> call) {
+        RosettePlate x = maker.get();
+        due(what, () -> call.applyAsLong(x), want);
+        same("the object after " + what, drain(x), drain(maker.get()));
+    }
+
     /** The answer of a call, or the name of what it throws. */
     static String outcome(Call call) {
         try {
@@ -43,7 +63,7 @@ final class Checks {
         }
         failed++;
         if (failed <= 40) {
-            System.out.println("  wrong: " + otherwise);
+            System.out.println("  wrong: " + sentence + otherwise);
         }
     }
 
@@ -100,8 +120,12 @@ final class Checks {
             int kept = slot;
             seen.add("restore " + outcome(() -> x.restore(kept)) + " " + view(x));
         }
-        int length = x.clearText();
-        seen.add("text " + length);
+        // The characters can be seen only by what becomes of them: half a text of Plates.rich ends with these.
+        for (char c : "00800".toCharArray()) {
+            seen.add("append " + outcome(() -> x.append(c)) + " load " + outcome(x::load));
+        }
+        seen.add(view(x));
+        seen.add("text " + x.clearText());
         return seen.toString();
     }
 }

@@ -2,18 +2,20 @@ import java.util.function.Supplier;
 import java.util.function.ToLongFunction;
 
 /**
- * Each exception that the document names, with calls to which two apply in the order in which they are named, and
- * that a call that throws changes nothing: neither the state, nor what is remembered or saved, nor the text.
+ * Terms, exceptions, "A call that throws an exception changes nothing.": each exception that the document names, by
+ * arguments beside their range and far from it, and that afterwards neither the state, nor what is remembered or
+ * saved, nor the text is another one.
  */
 public final class WrongCallsTest {
-    private static final Class<IndexOutOfBoundsException> INDEX = IndexOutOfBoundsException.class;
-    private static final Class<IllegalArgumentException> ARGUMENT = IllegalArgumentException.class;
-    private static final Class<IllegalStateException> STATE = IllegalStateException.class;
+    private static final Class<IndexOutOfBoundsException> INDEX = Checks.INDEX;
+    private static final Class<IllegalArgumentException> ARGUMENT = Checks.ARGUMENT;
+    private static final Class<IllegalStateException> STATE = Checks.STATE;
     private static final int[] NO_LAYERS = {-1, 3, 6, Integer.MIN_VALUE, Integer.MAX_VALUE};
 
     private static final Checks CHECKS = new Checks();
 
     public static void main(String[] args) {
+        CHECKS.of("Terms, exceptions", "A call that throws an exception changes nothing.");
         text();
         layers();
         whatThereIs();
@@ -23,57 +25,23 @@ public final class WrongCallsTest {
         CHECKS.close();
     }
 
-    /** Three layers, three sightings, four remembered states, one save slot filled, half a text. */
-    private static RosettePlate rich() {
-        RosettePlate x = Checks.plateOf("E24i100800o160405s00198");
-        x.setRing(30);
-        x.save(0);
-        x.addLayer(12, 0, 3, 29);
-        x.see(1, 210);
-        x.see(0, 220);
-        Checks.type(x, "E24i1");
-        return x;
-    }
-
-    private static RosettePlate fullText() {
-        RosettePlate x = rich();
-        Checks.type(x, "x".repeat(95));
-        return x;
-    }
-
-    private static RosettePlate sixLayers() {
-        RosettePlate x = rich();
-        x.addLayer(13, 0, 0, 0);
-        x.addLayer(14, 0, 0, 0);
-        x.addLayer(15, 0, 0, 0);
-        return x;
-    }
-
-    private static RosettePlate nothingRemembered() {
-        RosettePlate x = rich();
-        x.restore(0);
-        return x;
-    }
-
     private static void wrong(String what, Class<? extends RuntimeException> want, ToLongFunction<RosettePlate> call) {
-        wrong(what, WrongCallsTest::rich, want, call);
+        CHECKS.refused(what, want, Plates::rich, call);
     }
 
     private static void wrong(String what, Supplier<RosettePlate> maker, Class<? extends RuntimeException> want,
             ToLongFunction<RosettePlate> call) {
-        RosettePlate x = maker.get();
-        CHECKS.due(what, () -> call.applyAsLong(x), want);
-        CHECKS.same("the object after " + what, Checks.drain(x), Checks.drain(maker.get()));
+        CHECKS.refused(what, want, maker, call);
     }
 
     private static void text() {
         wrong("append(-1)", ARGUMENT, x -> x.append(-1));
         wrong("append(256)", ARGUMENT, x -> x.append(256));
-        wrong("append to a full text", WrongCallsTest::fullText, STATE, x -> x.append('E'));
-        wrong("append(256) to a full text", WrongCallsTest::fullText, ARGUMENT, x -> x.append(256));
-        wrong("append(-1) to a full text", WrongCallsTest::fullText, ARGUMENT, x -> x.append(-1));
+        wrong("append to a full text", Plates::fullText, STATE, x -> x.append('E'));
+        wrong("append(256) to a full text", Plates::fullText, ARGUMENT, x -> x.append(256));
+        wrong("append(-1) to a full text", Plates::fullText, ARGUMENT, x -> x.append(-1));
         wrong("load of half a text", STATE, RosettePlate::load);
-        wrong("load of a full text", WrongCallsTest::fullText, STATE, RosettePlate::load);
+        wrong("load of a full text", Plates::fullText, STATE, RosettePlate::load);
         wrong("load of no text", RosettePlate::new, STATE, RosettePlate::load);
     }
 
@@ -137,14 +105,14 @@ public final class WrongCallsTest {
             {5, 0, 0, -1}, {5, 0, 0, 30}};
         for (int[] v : layers) {
             wrong("addLayer", ARGUMENT, x -> x.addLayer(v[0], v[1], v[2], v[3]));
-            wrong("addLayer to 6", WrongCallsTest::sixLayers, ARGUMENT, x -> x.addLayer(v[0], v[1], v[2], v[3]));
+            wrong("addLayer to 6", Plates::sixLayers, ARGUMENT, x -> x.addLayer(v[0], v[1], v[2], v[3]));
         }
-        wrong("addLayer of a seventh one", WrongCallsTest::sixLayers, STATE, x -> x.addLayer(5, 0, 0, 0));
+        wrong("addLayer of a seventh one", Plates::sixLayers, STATE, x -> x.addLayer(5, 0, 0, 0));
         int[][] changes = {{-1, 5}, {4, 5}, {0, 4}, {0, 61}, {1, -1}, {1, 2}, {2, -1}, {2, 21}, {3, -1}, {3, 30}};
         for (int[] c : changes) {
             wrong("change(2, " + c[0] + ", " + c[1] + ")", ARGUMENT, x -> x.change(2, c[0], c[1]));
         }
-        wrong("undo of nothing", WrongCallsTest::nothingRemembered, STATE, RosettePlate::undo);
+        wrong("undo of nothing", Plates::nothingRemembered, STATE, RosettePlate::undo);
         wrong("undo of a new object", RosettePlate::new, STATE, RosettePlate::undo);
     }
 
