@@ -97,8 +97,12 @@ public final class EdgesOfActionsTest {
         }
         RosettePlate full = plateOf("E96" + "i100895".repeat(6) + "s95190".repeat(8));
         full.setRing(95);
-        due("the start of the sixth", full.layer(5, 3), 0);
-        due("the angle of the eighth", full.sighting(7, 0), 0);
+        for (int l = 0; l < 6; l++) {
+            CHECKS.same("the layer " + l, numbers(full, l), "10 0 8 0");
+        }
+        for (int i = 0; i < 8; i++) {
+            due("the sighting " + i, 1000 * full.sighting(i, 0) + full.sighting(i, 1), 190);
+        }
         due("layers stay", full.about(1), 6);
         due("sightings stay", full.about(2), 8);
     }

@@ -1,3 +1,4 @@
+import java.util.List;
 import java.util.function.ToLongFunction;
 
 /**
@@ -37,6 +38,7 @@ public final class EdgesOfTermsTest {
         severalExceptions();
         noSuchResult();
         asking();
+        askingAfterAsking();
         lastCall();
         CHECKS.close();
     }
@@ -566,6 +568,28 @@ public final class EdgesOfTermsTest {
         changesNothing("common", x -> x.common(0, 2));
         changesNothing("meet", x -> x.meet(0, 2));
         changesNothing("turned", x -> x.turned(2, 2));
+    }
+
+    /** What has been asked before makes no difference to an answer. */
+    private static void askingAfterAsking() {
+        CHECKS.of("The public face",
+            "what would be; these and all following methods up to the save slots change nothing.");
+        String text = "E24i240100i240000i242005i242000i100800o160422s00198s05196";
+        List<ToLongFunction<RosettePlate>> asked = List.of(x -> x.about(3), x -> x.about(5), x -> x.about(6),
+            x -> x.layer(2, 7), x -> x.layer(5, 7), x -> x.pen(2, 99), x -> x.comes(2, 5, 196), x -> x.at(176),
+            x -> x.at(196), RosettePlate::blank, RosettePlate::together, x -> x.order(2), x -> x.sighting(1, 2),
+            x -> x.common(0, 1), x -> x.common(3, 2), x -> x.common(5, 4), x -> x.meet(0, 3), x -> x.turned(2, 3),
+            x -> x.turned(3, 2), x -> x.bestStart(0, 1), x -> x.bestStart(2, 3), x -> x.bestStart(3, 2),
+            x -> x.wheels(0, 20, 5, 2), x -> x.wheelFor(5), x -> x.runScript(3, 50122_10305_50124L),
+            x -> x.runScript(2, 30012_72300L), x -> x.simulate(7, 9), RosettePlate::errorPosition);
+        for (int first = 0; first < asked.size(); first++) {
+            for (int then = 0; then < asked.size(); then++) {
+                RosettePlate x = Checks.plateOf(text);
+                asked.get(first).applyAsLong(x);
+                due("the question " + then + " behind the question " + first, asked.get(then).applyAsLong(x),
+                    asked.get(then).applyAsLong(Checks.plateOf(text)));
+            }
+        }
     }
 
     /** The call 512 is the last one that is promised: each of the actions ahead of it took the ring of 12 or of 13. */

@@ -21,6 +21,7 @@ public final class EdgesOfTwoRosettesTest {
         turnedWithoutLayer();
         bestStartMost();
         bestStartAmongSeveral();
+        bestStartOfEqualStarts();
         bestStartWithoutLayer();
         bestStartOfTheSame();
         CHECKS.close();
@@ -203,6 +204,18 @@ public final class EdgesOfTwoRosettesTest {
         due("all starts are as good", pair(24, 7, 23, 22).bestStart(0, 1), 0);
         due("all starts have all in common", plateOf("E24i240023i240023").bestStart(0, 1), 0);
         due("all starts have nothing in common", plateOf("E24i242023o242023").bestStart(0, 1), 0);
+    }
+
+    /**
+     * A wheel of 24 in a ring of 24 with the hole 1 is at 177 at its start, at 175 at the tooth across, else at 176;
+     * without a hole it is at 176 at all angles. So each start has 22 points in common.
+     */
+    private static void bestStartOfEqualStarts() {
+        CHECKS.of("Promise 25", "among several the smallest.");
+        RosettePlate x = plateOf("E24i240105i240017");
+        due("all starts have 22 points in common", x.bestStart(0, 1), 0);
+        due("the same the other way round", x.bestStart(1, 0), 0);
+        due("the points in common", x.common(0, 1), 22);
     }
 
     private static void bestStartWithoutLayer() {

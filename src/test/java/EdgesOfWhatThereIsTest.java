@@ -353,6 +353,9 @@ public final class EdgesOfWhatThereIsTest {
         due("the radii 260 and 140", plateOf("E24o600000i600000").blank(), 120);
         due("the radii 140, 195 and 260", plateOf("E24i600000i050000o600000").blank(), 65);
         due("the radii 140, 205 and 260", plateOf("E24i600000o600000o050000").blank(), 65);
+        // The wheel of 12 in the ring of 12 is at 168 and at 208 at one angle each; 140 and 260 are 28 and 52 away.
+        due("a radius with one point as the greatest", plateOf("E12i122000o600000").blank(), 52);
+        due("a radius with one point as the smallest", plateOf("E12i122000i600000").blank(), 28);
         // 190 down to 182 go by 4, 198 down to 194 too; 260 is 62 above all.
         due("the radii of A and 260", plateOf("E24o600000i100800").blank(), 62);
         due("the radii of A and 140", plateOf("E24i600000i100800").blank(), 42);
@@ -384,6 +387,8 @@ public final class EdgesOfWhatThereIsTest {
         due("periods of 24 and 48", plateOf("E24i240000i480000").together(), 48);
         due("periods of 48 and 24", plateOf("E24i480000i240000").together(), 48);
         due("periods of 120 and 48", plateOf("E24i100000i160000").together(), 240);
+        due("an odd period", plateOf("E13i130000").together(), 13);
+        due("two odd periods", plateOf("E15i050000i070000").together(), 105);
         // 96 * 59 * 53 * 47 * 43 * 41 * 37 have no divisor in common: more than any int.
         due("six primes in 96", plateOf("E96i590000i530000i470000i430000i410000i370000").together(),
             96L * 59 * 53 * 47 * 43 * 41 * 37);
