@@ -1,12 +1,8 @@
-import java.util.function.ToLongFunction;
-
 /**
  * The promises 18 to 24: a test for each sentence that names a boundary case. The answers are worked out from the
  * document.
  */
-public final class EdgesOfActionsTest {
-    private static final Checks CHECKS = new Checks();
-
+public final class EdgesOfActionsTest extends Edges {
     public static void main(String[] args) {
         setRingRange();
         setRingStartsAndAngles();
@@ -33,22 +29,6 @@ public final class EdgesOfActionsTest {
         undoAnswersTheRest();
         undoOfNothing();
         CHECKS.close();
-    }
-
-    private static void due(String what, long got, long want) {
-        CHECKS.due(what, got, want);
-    }
-
-    private static RosettePlate plateOf(String text) {
-        return Checks.plateOf(text);
-    }
-
-    private static void noIndex(String what, ToLongFunction<RosettePlate> call) {
-        CHECKS.refused(what, Checks.INDEX, Plates::rich, call);
-    }
-
-    private static void noArgument(String what, ToLongFunction<RosettePlate> call) {
-        CHECKS.refused(what, Checks.ARGUMENT, Plates::rich, call);
     }
 
     /** The wheel, the side, the hole and the start of a layer. */

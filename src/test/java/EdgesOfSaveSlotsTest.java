@@ -2,9 +2,7 @@
  * The promises 30 and 31: a test for each sentence that names a boundary case. The answers are worked out from the
  * document.
  */
-public final class EdgesOfSaveSlotsTest {
-    private static final Checks CHECKS = new Checks();
-
+public final class EdgesOfSaveSlotsTest extends Edges {
     public static void main(String[] args) {
         saveSlots();
         saveStoresThePresent();
@@ -17,10 +15,6 @@ public final class EdgesOfSaveSlotsTest {
         restoreNoSuchSlot();
         restoreOfNothing();
         CHECKS.close();
-    }
-
-    private static void due(String what, long got, long want) {
-        CHECKS.due(what, got, want);
     }
 
     // ---- Promise 30: save
@@ -41,7 +35,7 @@ public final class EdgesOfSaveSlotsTest {
 
     private static void saveStoresThePresent() {
         CHECKS.of("Promise 30", "Stores the present state in a save slot.");
-        RosettePlate x = Checks.plateOf("E96" + "i100895".repeat(6) + "s95300".repeat(8));
+        RosettePlate x = plateOf("E96" + "i100895".repeat(6) + "s95300".repeat(8));
         x.setRing(96);
         String full = Checks.view(x);
         x.save(0);
@@ -154,7 +148,7 @@ public final class EdgesOfSaveSlotsTest {
     private static void restoreAnswersTheLayers() {
         CHECKS.of("Promise 31", "Returns the number of layers then.");
         for (int layers = 0; layers <= 6; layers++) {
-            RosettePlate x = Checks.plateOf("E24" + "i100800".repeat(layers));
+            RosettePlate x = plateOf("E24" + "i100800".repeat(layers));
             x.save(1);
             for (int l = layers; l > 0; l--) {
                 x.remove(0);

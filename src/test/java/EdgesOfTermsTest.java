@@ -5,10 +5,7 @@ import java.util.function.ToLongFunction;
  * "Terms" (all but the text, which is in EdgesOfTextTest): a test for each sentence that names a boundary case. The
  * answers are worked out from the document.
  */
-public final class EdgesOfTermsTest {
-    private static final int NONE = -9;
-    private static final Checks CHECKS = new Checks();
-
+public final class EdgesOfTermsTest extends Edges {
     public static void main(String[] args) {
         ringsOfTwelveToNinetySix();
         teethGoAround();
@@ -43,18 +40,6 @@ public final class EdgesOfTermsTest {
         CHECKS.close();
     }
 
-    private static void due(String what, long got, long want) {
-        CHECKS.due(what, got, want);
-    }
-
-    private static void noIndex(String what, ToLongFunction<RosettePlate> call) {
-        CHECKS.refused(what, Checks.INDEX, Plates::rich, call);
-    }
-
-    private static void noArgument(String what, ToLongFunction<RosettePlate> call) {
-        CHECKS.refused(what, Checks.ARGUMENT, Plates::rich, call);
-    }
-
     // ---- the ring and the layers
 
     private static void ringsOfTwelveToNinetySix() {
@@ -66,18 +51,18 @@ public final class EdgesOfTermsTest {
         due("the ring then", x.about(0), 96);
         noArgument("setRing(11)", y -> y.setRing(11));
         noArgument("setRing(97)", y -> y.setRing(97));
-        due("a ring of 12 in a text", Checks.plateOf("E12").about(0), 12);
-        due("a ring of 96 in a text", Checks.plateOf("E96").about(0), 96);
+        due("a ring of 12 in a text", plateOf("E12").about(0), 12);
+        due("a ring of 96 in a text", plateOf("E96").about(0), 96);
     }
 
     /** A wheel of 5 without a hole has all its points at the radius 195. */
     private static void teethGoAround() {
         CHECKS.of("Terms, the ring and the layers", "The ring has 12 to 96 teeth, numbered from 0 around.");
-        RosettePlate least = Checks.plateOf("E12i050011");
+        RosettePlate least = plateOf("E12i050011");
         due("the last tooth of 12", least.pen(0, 0), 11195);
         due("the tooth behind it", least.pen(0, 1), 195);
         due("once around 12", least.pen(0, 12), 11195);
-        RosettePlate most = Checks.plateOf("E96i050095");
+        RosettePlate most = plateOf("E96i050095");
         due("the last tooth of 96", most.pen(0, 0), 95195);
         due("the tooth behind it", most.pen(0, 1), 195);
         due("once around 96", most.pen(0, 96), 95195);
@@ -139,7 +124,7 @@ public final class EdgesOfTermsTest {
 
     private static void stepsBeginWithZero() {
         CHECKS.of("Terms, rosettes", "The pen of a layer goes by steps t = 0, 1, 2, and so on.");
-        RosettePlate x = Checks.plateOf("E24i100807");
+        RosettePlate x = plateOf("E24i100807");
         due("the step 0", x.pen(0, 0), 7198);
         due("the step 1", x.pen(0, 1), 8194);
         due("the point of the step 0", x.comes(0, 7, 198), 0);
@@ -149,7 +134,7 @@ public final class EdgesOfTermsTest {
     private static void anglesGoAround() {
         CHECKS.of("Terms, rosettes", "At the step t the pen is at the angle (start + t, however great t is), taken as"
             + " the remainder by the teeth of the ring");
-        RosettePlate x = Checks.plateOf("E24i240023i240000");
+        RosettePlate x = plateOf("E24i240023i240000");
         for (int t = 0; t < 100; t++) {
             due("angle of the start 23 at " + t, x.pen(0, t) / 1000, (23 + t) % 24);
             due("angle of the start 0 at " + t, x.pen(1, t) / 1000, t % 24);
@@ -159,13 +144,13 @@ public final class EdgesOfTermsTest {
     /** 2 to the 63rd less 1 leaves 7 in 10, 12, 24 and 60 and 31 in 96; with a start it is more than any long. */
     private static void stepsAreGreat() {
         CHECKS.of("Terms, rosettes", "At the step t the pen is at the angle (start + t, however great t is)");
-        RosettePlate x = Checks.plateOf("E24i100823");
+        RosettePlate x = plateOf("E24i100823");
         due("the greatest step", x.pen(0, Long.MAX_VALUE), 1000 * ((23 + 7) % 24) + 189);
         due("the greatest step but one", x.pen(0, Long.MAX_VALUE - 1), 1000 * ((23 + 6) % 24) + 186);
         due("the greatest step less 23", x.pen(0, Long.MAX_VALUE - 23), 1000 * ((23 + 8) % 24) + 186);
         // The wheel of 60 around the ring, hole 20, at u = 7: 260 + 20 * (2 * 46 - 60) / 60.
-        due("the greatest step in 96", Checks.plateOf("E96o602095").pen(0, Long.MAX_VALUE), 1000 * (126 % 96) + 270);
-        due("the greatest step in 12", Checks.plateOf("E12i120011").pen(0, Long.MAX_VALUE), 1000 * (18 % 12) + 188);
+        due("the greatest step in 96", plateOf("E96o602095").pen(0, Long.MAX_VALUE), 1000 * (126 % 96) + 270);
+        due("the greatest step in 12", plateOf("E12i120011").pen(0, Long.MAX_VALUE), 1000 * (18 % 12) + 188);
         // 2 to the 31st leaves 8 in 24 and 8 in 10.
         due("a step that is no int", x.pen(0, 1L << 31), 1000 * ((23 + 8) % 24) + 191);
         due("the greatest int", x.pen(0, Integer.MAX_VALUE), 1000 * ((23 + 7) % 24) + 189);
@@ -175,7 +160,7 @@ public final class EdgesOfTermsTest {
 
     private static void stepsOfTheWheelBeginAgain() {
         CHECKS.of("Terms, rosettes", "u the remainder of t divided by w");
-        RosettePlate x = Checks.plateOf("E96i052000i602000");
+        RosettePlate x = plateOf("E96i052000i602000");
         // 195 + 20 * 5 / 5, 195 + 20 * 1 / 5, 195 - 20 * 3 / 5, and so on.
         int[] five = {215, 199, 183, 183, 199};
         for (int t = 0; t < 16; t++) {
@@ -190,7 +175,7 @@ public final class EdgesOfTermsTest {
     private static void radiiOfBothSides() {
         CHECKS.of("Terms, rosettes", "and at the radius (200 - w for the side 0, 200 + w for the side 1)"
             + " + (hole * (2 * |2 * u - w| - w)) / w");
-        RosettePlate x = Checks.plateOf("E24i050000o050000i600000o600000");
+        RosettePlate x = plateOf("E24i050000o050000i600000o600000");
         int[] want = {195, 205, 140, 260};
         for (int l = 0; l < want.length; l++) {
             for (int t = 0; t < 60; t++) {
@@ -211,7 +196,7 @@ public final class EdgesOfTermsTest {
 
     private static void quotientsAreRoundedTowardsZero() {
         CHECKS.of("Terms, rosettes", "where the quotient is rounded towards 0.");
-        RosettePlate x = Checks.plateOf("E24i050100o050100i602000o602000i592000");
+        RosettePlate x = plateOf("E24i050100o050100i602000o602000i592000");
         // Hole 1: 1 * 5 / 5, 1 * 1 / 5 and 1 * -3 / 5, of which the last two are 0.
         int[] one = {1, 0, 0, 0, 0};
         for (int u = 0; u < 5; u++) {
@@ -234,14 +219,14 @@ public final class EdgesOfTermsTest {
     private static void pointsAreCountedOnce() {
         CHECKS.of("Terms, rosettes", "The rosette of a layer is the set of all its points.");
         // Without a hole the radius stays, so the 120 steps come to 24 points.
-        RosettePlate x = Checks.plateOf("E24i100000");
+        RosettePlate x = plateOf("E24i100000");
         due("points of a layer", x.layer(0, 7), 24);
         due("points of the plate", x.about(3), 24);
         due("points at the radius", x.at(190), 24);
         due("points in common with itself", x.common(0, 0), 24);
-        due("points of two layers alike", Checks.plateOf("E24i100000i100013").about(3), 24);
+        due("points of two layers alike", plateOf("E24i100000i100013").about(3), 24);
         // In a ring of 12 the wheel of 12 is at one radius at each angle: no point is met twice.
-        due("points that are met once", Checks.plateOf("E12i122000").layer(0, 7), 12);
+        due("points that are met once", plateOf("E12i122000").layer(0, 7), 12);
     }
 
     private static void periods() {
@@ -295,17 +280,17 @@ public final class EdgesOfTermsTest {
         CHECKS.of("Terms, sightings",
             "A layer fits them if all of them are points of its rosette (it does if there are none).");
         String eight = "s00198s01194s02191s03189s04186s05182s06186";
-        due("no sightings", Checks.plateOf("E24i100800o602000").about(6), 2);
+        due("no sightings", plateOf("E24i100800o602000").about(6), 2);
         due("no sightings and no layers", new RosettePlate().about(6), 0);
-        due("all of eight are points", Checks.plateOf("E24i100800" + eight + "s07189").about(6), 1);
-        due("all but the newest are points", Checks.plateOf("E24i100800" + eight + "s07190").about(6), 0);
-        due("all but the oldest are points", Checks.plateOf("E24i100800s00199s07189" + eight.substring(6)).about(6), 0);
+        due("all of eight are points", plateOf("E24i100800" + eight + "s07189").about(6), 1);
+        due("all but the newest are points", plateOf("E24i100800" + eight + "s07190").about(6), 0);
+        due("all but the oldest are points", plateOf("E24i100800s00199s07189" + eight.substring(6)).about(6), 0);
         due("all but one between are points",
-            Checks.plateOf("E24i100800" + eight.replace("s03189", "s04189") + "s07189").about(6), 0);
+            plateOf("E24i100800" + eight.replace("s03189", "s04189") + "s07189").about(6), 0);
         // The angle 24 is the angle 0 again, at which the even radii of this layer are.
-        due("a point of a later turn", Checks.plateOf("E24i100800s00186").about(6), 1);
-        due("a radius of the layer, but not at this angle", Checks.plateOf("E24i100800s00189").about(6), 0);
-        due("the same point eight times", Checks.plateOf("E24i100800" + "s00198".repeat(8)).about(6), 1);
+        due("a point of a later turn", plateOf("E24i100800s00186").about(6), 1);
+        due("a radius of the layer, but not at this angle", plateOf("E24i100800s00189").about(6), 0);
+        due("the same point eight times", plateOf("E24i100800" + "s00198".repeat(8)).about(6), 1);
     }
 
     // ---- actions and undo
@@ -334,7 +319,7 @@ public final class EdgesOfTermsTest {
     private static void actionsThatChangeNothing() {
         CHECKS.of("Terms, actions and undo", "Each call of one of them that does not throw an exception is an action,"
             + " also if nothing becomes different (undo is none).");
-        RosettePlate x = Checks.plateOf("E24i100800" + "s00198".repeat(8));
+        RosettePlate x = plateOf("E24i100800" + "s00198".repeat(8));
         String before = Checks.view(x);
         x.setRing(24);
         for (int what = 0; what < 4; what++) {
@@ -365,7 +350,7 @@ public final class EdgesOfTermsTest {
 
     private static void stateBeforeEachAction() {
         CHECKS.of("Terms, actions and undo", "Before each action, the state is remembered.");
-        RosettePlate x = Checks.plateOf("E24i100800o160423s23198s00198");
+        RosettePlate x = plateOf("E24i100800o160423s23198s00198");
         String[] before = new String[6];
         before[0] = Checks.view(x);
         x.setRing(12);
@@ -515,7 +500,7 @@ public final class EdgesOfTermsTest {
     private static void noSuchResult() {
         CHECKS.of("Terms", "`NONE = -9`: There is no such result.");
         due("NONE", RosettePlate.NONE, -9);
-        RosettePlate x = Checks.plateOf("E24");
+        RosettePlate x = plateOf("E24");
         Checks.type(x, "E24");
         due("errorPosition of a plate", x.errorPosition(), -9);
         due("about(4) without layers", x.about(4), -9);
@@ -584,10 +569,10 @@ public final class EdgesOfTermsTest {
             x -> x.runScript(2, 30012_72300L), x -> x.simulate(7, 9), RosettePlate::errorPosition);
         for (int first = 0; first < asked.size(); first++) {
             for (int then = 0; then < asked.size(); then++) {
-                RosettePlate x = Checks.plateOf(text);
+                RosettePlate x = plateOf(text);
                 asked.get(first).applyAsLong(x);
                 due("the question " + then + " behind the question " + first, asked.get(then).applyAsLong(x),
-                    asked.get(then).applyAsLong(Checks.plateOf(text)));
+                    asked.get(then).applyAsLong(plateOf(text)));
             }
         }
     }

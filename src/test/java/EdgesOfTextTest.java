@@ -2,12 +2,10 @@
  * "Terms", text, and the promises 2 to 5: a test for each sentence that names a boundary case. The answers are worked
  * out from the document.
  */
-public final class EdgesOfTextTest {
-    private static final int NONE = -9;
+public final class EdgesOfTextTest extends Edges {
     private static final String SIX = "i050000o602011".repeat(3);
     private static final String EIGHT = "s00000s11300".repeat(4);
     private static final String THREE_PARTS = "E24i100823o602000s23300";
-    private static final Checks CHECKS = new Checks();
 
     public static void main(String[] args) {
         atMostAHundredCharacters();
@@ -36,10 +34,6 @@ public final class EdgesOfTextTest {
         loadAnswersTheLayers();
         loadOfNoPlate();
         CHECKS.close();
-    }
-
-    private static void due(String what, long got, long want) {
-        CHECKS.due(what, got, want);
     }
 
     private static void error(String text, int want) {
@@ -103,8 +97,8 @@ public final class EdgesOfTextTest {
             error("E12i60" + two(number) + "11", number <= 20 ? NONE : number < 30 ? 7 : 6);
             error("E12o05" + two(number) + "00", number <= 20 ? NONE : number < 30 ? 7 : 6);
         }
-        due("the side of i", Checks.plateOf("E12i050000").layer(0, 1), 0);
-        due("the side of o", Checks.plateOf("E12o050000").layer(0, 1), 1);
+        due("the side of i", plateOf("E12i050000").layer(0, 1), 0);
+        due("the side of o", plateOf("E12o050000").layer(0, 1), 1);
         error("E12I050000", 3);
         error("E12O050000", 3);
         error("E120050000", 3);

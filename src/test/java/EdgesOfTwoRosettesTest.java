@@ -1,13 +1,8 @@
-import java.util.function.ToLongFunction;
-
 /**
  * The promises 15 to 17 and 25: a test for each sentence that names a boundary case. The answers are worked out from
  * the document.
  */
-public final class EdgesOfTwoRosettesTest {
-    private static final int NONE = -9;
-    private static final Checks CHECKS = new Checks();
-
+public final class EdgesOfTwoRosettesTest extends Edges {
     public static void main(String[] args) {
         commonPoints();
         commonWithoutLayer();
@@ -27,18 +22,6 @@ public final class EdgesOfTwoRosettesTest {
         CHECKS.close();
     }
 
-    private static void due(String what, long got, long want) {
-        CHECKS.due(what, got, want);
-    }
-
-    private static RosettePlate plateOf(String text) {
-        return Checks.plateOf(text);
-    }
-
-    private static void noIndex(String what, ToLongFunction<RosettePlate> call) {
-        CHECKS.refused(what, Checks.INDEX, Plates::rich, call);
-    }
-
     /** A layer of this wheel with the hole 20 at this start, and one at the other start. */
     private static RosettePlate pair(int ring, int wheel, int start, int other) {
         RosettePlate x = new RosettePlate();
@@ -46,6 +29,21 @@ public final class EdgesOfTwoRosettesTest {
         x.addLayer(wheel, 0, 20, start);
         x.addLayer(wheel, 0, 20, other);
         return x;
+    }
+
+    private interface OfTwo {
+        long ask(RosettePlate x, int l, int m);
+    }
+
+    private static void withoutLayer(String what, OfTwo call) {
+        for (int no : new int[] {-1, 3, 6, Integer.MIN_VALUE, Integer.MAX_VALUE}) {
+            noIndex(what + "(" + no + ", 0)", x -> call.ask(x, no, 0));
+            noIndex(what + "(0, " + no + ")", x -> call.ask(x, 0, no));
+            noIndex(what + " of twice " + no, x -> call.ask(x, no, no));
+        }
+        CHECKS.refused(what + "(0, 0) of none", Checks.INDEX, Plates::bare, x -> call.ask(x, 0, 0));
+        CHECKS.refused(what + "(5, 6) of six", Checks.INDEX, Plates::sixLayers, x -> call.ask(x, 5, 6));
+        CHECKS.refused(what + "(6, 5) of six", Checks.INDEX, Plates::sixLayers, x -> call.ask(x, 6, 5));
     }
 
     // ---- Promise 15: common
@@ -68,13 +66,7 @@ public final class EdgesOfTwoRosettesTest {
 
     private static void commonWithoutLayer() {
         CHECKS.of("Promise 15", "Throws `IndexOutOfBoundsException` if there is no such layer");
-        for (int no : new int[] {-1, 3, 6, Integer.MIN_VALUE, Integer.MAX_VALUE}) {
-            noIndex("common(" + no + ", 0)", x -> x.common(no, 0));
-            noIndex("common(0, " + no + ")", x -> x.common(0, no));
-            noIndex("common of twice " + no, x -> x.common(no, no));
-        }
-        CHECKS.refused("common(0, 0) of none", Checks.INDEX, Plates::bare, x -> x.common(0, 0));
-        CHECKS.refused("common(5, 6) of six", Checks.INDEX, Plates::sixLayers, x -> x.common(5, 6));
+        withoutLayer("common", (x, l, m) -> x.common(l, m));
     }
 
     // ---- Promise 16: meet
@@ -113,13 +105,7 @@ public final class EdgesOfTwoRosettesTest {
 
     private static void meetWithoutLayer() {
         CHECKS.of("Promise 16", "Throws `IndexOutOfBoundsException` if there is no such layer");
-        for (int no : new int[] {-1, 3, 6, Integer.MIN_VALUE, Integer.MAX_VALUE}) {
-            noIndex("meet(" + no + ", 0)", x -> x.meet(no, 0));
-            noIndex("meet(0, " + no + ")", x -> x.meet(0, no));
-            noIndex("meet of twice " + no, x -> x.meet(no, no));
-        }
-        CHECKS.refused("meet(0, 0) of none", Checks.INDEX, Plates::bare, x -> x.meet(0, 0));
-        CHECKS.refused("meet(6, 5) of six", Checks.INDEX, Plates::sixLayers, x -> x.meet(6, 5));
+        withoutLayer("meet", (x, l, m) -> x.meet(l, m));
     }
 
     // ---- Promise 17: turned
@@ -171,13 +157,7 @@ public final class EdgesOfTwoRosettesTest {
 
     private static void turnedWithoutLayer() {
         CHECKS.of("Promise 17", "Throws `IndexOutOfBoundsException` if there is no such layer");
-        for (int no : new int[] {-1, 3, 6, Integer.MIN_VALUE, Integer.MAX_VALUE}) {
-            noIndex("turned(" + no + ", 0)", x -> x.turned(no, 0));
-            noIndex("turned(0, " + no + ")", x -> x.turned(0, no));
-            noIndex("turned of twice " + no, x -> x.turned(no, no));
-        }
-        CHECKS.refused("turned(0, 0) of none", Checks.INDEX, Plates::bare, x -> x.turned(0, 0));
-        CHECKS.refused("turned(6, 5) of six", Checks.INDEX, Plates::sixLayers, x -> x.turned(6, 5));
+        withoutLayer("turned", (x, l, m) -> x.turned(l, m));
     }
 
     // ---- Promise 25: bestStart
@@ -220,13 +200,7 @@ public final class EdgesOfTwoRosettesTest {
 
     private static void bestStartWithoutLayer() {
         CHECKS.of("Promise 25", "Throws `IndexOutOfBoundsException` if there is no such layer");
-        for (int no : new int[] {-1, 3, 6, Integer.MIN_VALUE, Integer.MAX_VALUE}) {
-            noIndex("bestStart(" + no + ", 0)", x -> x.bestStart(no, 0));
-            noIndex("bestStart(0, " + no + ")", x -> x.bestStart(0, no));
-            noIndex("bestStart of twice " + no, x -> x.bestStart(no, no));
-        }
-        CHECKS.refused("bestStart(0, 0) of none", Checks.INDEX, Plates::bare, x -> x.bestStart(0, 0));
-        CHECKS.refused("bestStart(5, 6) of six", Checks.INDEX, Plates::sixLayers, x -> x.bestStart(5, 6));
+        withoutLayer("bestStart", (x, l, m) -> x.bestStart(l, m));
     }
 
     private static void bestStartOfTheSame() {

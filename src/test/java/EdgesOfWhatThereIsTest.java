@@ -1,13 +1,8 @@
-import java.util.function.ToLongFunction;
-
 /**
  * The promises 1 and 6 to 14: a test for each sentence that names a boundary case. The answers are worked out from
  * the document.
  */
-public final class EdgesOfWhatThereIsTest {
-    private static final int NONE = -9;
-    private static final Checks CHECKS = new Checks();
-
+public final class EdgesOfWhatThereIsTest extends Edges {
     public static void main(String[] args) {
         newObject();
         aboutRingLayersSightings();
@@ -45,22 +40,6 @@ public final class EdgesOfWhatThereIsTest {
         noSuchSighting();
         sightingOutOfRange();
         CHECKS.close();
-    }
-
-    private static void due(String what, long got, long want) {
-        CHECKS.due(what, got, want);
-    }
-
-    private static RosettePlate plateOf(String text) {
-        return Checks.plateOf(text);
-    }
-
-    private static void noIndex(String what, ToLongFunction<RosettePlate> call) {
-        CHECKS.refused(what, Checks.INDEX, Plates::rich, call);
-    }
-
-    private static void noArgument(String what, ToLongFunction<RosettePlate> call) {
-        CHECKS.refused(what, Checks.ARGUMENT, Plates::rich, call);
     }
 
     // ---- Promise 1: a new object

@@ -1,13 +1,8 @@
-import java.util.function.ToLongFunction;
-
 /**
  * The promises 26 to 29: a test for each sentence that names a boundary case. The answers are worked out from the
  * document. Promise 25 is in EdgesOfTwoRosettesTest.
  */
-public final class EdgesOfWhatWouldBeTest {
-    private static final int NONE = -9;
-    private static final Checks CHECKS = new Checks();
-
+public final class EdgesOfWhatWouldBeTest extends Edges {
     public static void main(String[] args) {
         wheelsOfFiveToSixty();
         wheelsWithoutSightings();
@@ -31,18 +26,6 @@ public final class EdgesOfWhatWouldBeTest {
         simulateWithTheRingAsItIs();
         simulateOutOfRange();
         CHECKS.close();
-    }
-
-    private static void due(String what, long got, long want) {
-        CHECKS.due(what, got, want);
-    }
-
-    private static RosettePlate plateOf(String text) {
-        return Checks.plateOf(text);
-    }
-
-    private static void noArgument(String what, ToLongFunction<RosettePlate> call) {
-        CHECKS.refused(what, Checks.ARGUMENT, Plates::rich, call);
     }
 
     // ---- Promise 26: wheels
